@@ -179,6 +179,8 @@ final class PromiseTest {
             Check.isRefused(y, STATE, () -> y.insert(list, 40, 99));
             Check.isRefused(y, NONE, () -> y.insert(list, 41, 99));
             Check.isRefused(y, ARGUMENT, () -> y.insert(list, 0, 100));
+            y.takeAt(list, 39);
+            Check.same(y.insert(list, 39, 99), 40);
         }
         isUnsupportedFor(NO_LISTS, (x, c) -> x.insert(c, -1, -1));
         needsNumber(8, (x, c) -> x.insert(c, 0, 1));
@@ -204,6 +206,9 @@ final class PromiseTest {
             Check.isRefused(y, ARGUMENT, () -> y.put(map, 40, 100));
             Check.same(costsUse(y, map, () -> y.put(map, 39, 1)), false);
             Check.same(costsUse(y, map, () -> y.put(map, 1, 1)), map == 3);
+            y.drop(map, 0);
+            Check.same(y.put(map, 99, 1), false);
+            Check.same(y.size(map), 40);
         }
         Walkwatch x = with(2, 1, 2);
         x.put(2, 1, 9);
