@@ -16,14 +16,52 @@ import java.util.regex.Pattern;
 /** The face of the class as the document has it, and the rules of LANGUAGE.md that can be told from outside. */
 final class FaceTest {
     private static final String[] FACE = {
-        "int size(int)", "boolean add(int,int)", "int insert(int,int,int)", "boolean put(int,int,int)",
-        "int set(int,int,int)", "int get(int,int)", "int ask(int,int)", "boolean has(int,int)",
-        "boolean drop(int,int)", "int takeAt(int,int)", "int cut(int,int,int)", "int poll(int,boolean)",
-        "int clear(int)", "int addAll(int,int)", "int sweep(int,int,int)", "boolean begin(int,int,char)",
-        "boolean beginAt(int,int,int)", "boolean beginSpan(int,int,int)", "int step(int)", "int stepChange(int,int)",
-        "int back(int)", "int take(int)", "int lay(int,int)", "int change(int,int)", "int place(int)",
-        "boolean isAtEnd(int)", "int answered(int)", "int end(int)", "char kindOf(int)", "int thingAt(int,int)",
-        "int valueAt(int,int)", "int sum(int)", "float endShare()", "double meanSize()", "long checksum()",
+        "int size(int) IndexOutOfBoundsException",
+        "boolean add(int,int) IndexOutOfBoundsException,IllegalArgumentException,IllegalStateException",
+        "int insert(int,int,int) IndexOutOfBoundsException,UnsupportedOperationException,"
+                + "NoSuchElementException,IllegalArgumentException,IllegalStateException",
+        "boolean put(int,int,int) IndexOutOfBoundsException,UnsupportedOperationException,"
+                + "IllegalArgumentException,IllegalStateException",
+        "int set(int,int,int) IndexOutOfBoundsException,UnsupportedOperationException,NoSuchElementException,"
+                + "IllegalArgumentException",
+        "int get(int,int) IndexOutOfBoundsException,UnsupportedOperationException,NoSuchElementException",
+        "int ask(int,int) IndexOutOfBoundsException,UnsupportedOperationException,NoSuchElementException",
+        "boolean has(int,int) IndexOutOfBoundsException",
+        "boolean drop(int,int) IndexOutOfBoundsException",
+        "int takeAt(int,int) IndexOutOfBoundsException,UnsupportedOperationException,NoSuchElementException",
+        "int cut(int,int,int) IndexOutOfBoundsException,UnsupportedOperationException,"
+                + "IllegalArgumentException,NoSuchElementException",
+        "int poll(int,boolean) IndexOutOfBoundsException,UnsupportedOperationException,NoSuchElementException",
+        "int clear(int) IndexOutOfBoundsException",
+        "int addAll(int,int) IndexOutOfBoundsException,UnsupportedOperationException,IllegalStateException",
+        "int sweep(int,int,int) IndexOutOfBoundsException,IllegalArgumentException",
+        "boolean begin(int,int,char) IndexOutOfBoundsException,IllegalArgumentException,"
+                + "UnsupportedOperationException",
+        "boolean beginAt(int,int,int) IndexOutOfBoundsException,UnsupportedOperationException,NoSuchElementException",
+        "boolean beginSpan(int,int,int) IndexOutOfBoundsException,IllegalArgumentException",
+        "int step(int) IndexOutOfBoundsException,NoSuchElementException,IllegalStateException,"
+                + "ConcurrentModificationException",
+        "int stepChange(int,int) IndexOutOfBoundsException,NoSuchElementException,"
+                + "UnsupportedOperationException,IllegalArgumentException,ConcurrentModificationException",
+        "int back(int) IndexOutOfBoundsException,NoSuchElementException,UnsupportedOperationException,"
+                + "ConcurrentModificationException",
+        "int take(int) IndexOutOfBoundsException,NoSuchElementException,UnsupportedOperationException,"
+                + "IllegalStateException,ConcurrentModificationException",
+        "int lay(int,int) IndexOutOfBoundsException,NoSuchElementException,UnsupportedOperationException,"
+                + "IllegalArgumentException,IllegalStateException,ConcurrentModificationException",
+        "int change(int,int) IndexOutOfBoundsException,NoSuchElementException,UnsupportedOperationException,"
+                + "IllegalArgumentException,IllegalStateException,ConcurrentModificationException",
+        "int place(int) IndexOutOfBoundsException,NoSuchElementException,UnsupportedOperationException",
+        "boolean isAtEnd(int) IndexOutOfBoundsException,NoSuchElementException",
+        "int answered(int) IndexOutOfBoundsException,NoSuchElementException",
+        "int end(int) IndexOutOfBoundsException,NoSuchElementException",
+        "char kindOf(int) IndexOutOfBoundsException",
+        "int thingAt(int,int) IndexOutOfBoundsException,UnsupportedOperationException,NoSuchElementException",
+        "int valueAt(int,int) IndexOutOfBoundsException,UnsupportedOperationException,NoSuchElementException",
+        "int sum(int) IndexOutOfBoundsException",
+        "float endShare() ArithmeticException",
+        "double meanSize()",
+        "long checksum()",
         "boolean isTrue()"};
 
     private FaceTest() {
@@ -44,7 +82,12 @@ final class FaceTest {
             for (Class<?> type : m.getParameterTypes()) {
                 types.add(type.getName());
             }
-            found.add(m.getReturnType().getName() + " " + m.getName() + "(" + String.join(",", types) + ")");
+            List<String> thrown = new ArrayList<>();
+            for (Class<?> type : m.getExceptionTypes()) {
+                thrown.add(type.getSimpleName());
+            }
+            String call = m.getReturnType().getName() + " " + m.getName() + "(" + String.join(",", types) + ")";
+            found.add((call + " " + String.join(",", thrown)).trim());
         }
         Check.same(found, new TreeSet<>(List.of(FACE)));
     }
@@ -77,24 +120,45 @@ final class FaceTest {
         }
     }
 
-    static void faceIsOfTheLanguageOfTheProject() throws IOException {
-        String source = Files.readString(Path.of("src/main/java/Walkwatch.java"));
-        for (String outside : List.of("package ", "->", "::", "try ", "catch", "finally", "synchronized", "assert ",
-                "instanceof", "switch", "System.", "Exact(", "@")) {
-            Check.same(source.contains(outside), false);
-        }
-        Set<String> library = new TreeSet<>();
-        Matcher names = Pattern.compile("\\bjava\\.[a-zA-Z.]+").matcher(source);
+    static void faceKeepsToTheLibraryOfTheLanguage() throws IOException {
+        List<String> library = List.of("java.util.NoSuchElementException", "java.util.ConcurrentModificationException",
+                "java.util.ArrayList", "java.util.List", "java.util.Arrays", "java.util.Iterator");
+        Matcher names = Pattern.compile("\\bjavax?\\.[a-zA-Z.]+").matcher(source());
         while (names.find()) {
-            library.add(names.group());
+            Check.same(library.contains(names.group()), true);
         }
-        Check.same(library,
-                new TreeSet<>(List.of("java.util.NoSuchElementException", "java.util.ConcurrentModificationException")));
-        Matcher thrown = Pattern.compile("throw new ([A-Za-z.]+)\\(\\);").matcher(source);
+    }
+
+    static void faceLeavesOutWhatTheLanguageLeavesOut() throws IOException {
+        String source = source();
+        for (String outside : List.of("package ", "::", "finally", "synchronized", "assert ", "Exact(", "static {",
+                "nanoTime", "currentTimeMillis", "Random", "Thread", "hashCode", "toString()", "getMessage")) {
+            Check.same(source.contains(outside) ? outside : "", "");
+        }
+    }
+
+    static void faceThrowsTheExceptionsOfTheDocumentAlone() throws IOException {
+        Matcher thrown = Pattern.compile("throw new ([A-Za-z.]+)\\(").matcher(source());
         while (thrown.find()) {
             Check.same(List.of("IllegalStateException", "IllegalArgumentException", "IndexOutOfBoundsException",
                     "ArithmeticException", "UnsupportedOperationException", "NoSuchElementException",
                     "java.util.ConcurrentModificationException").contains(thrown.group(1)), true);
         }
+    }
+
+    static void faceCatchesNothingThatTheMachineThrows() throws IOException {
+        Matcher caught = Pattern.compile("catch \\(([^)]*)\\)").matcher(source());
+        while (caught.find()) {
+            for (String machines : List.of("IndexOutOfBounds", "NullPointer", "Arithmetic", "ClassCast",
+                    "NegativeArraySize", "ArrayStore", "RuntimeException", "Throwable", "Error", " Exception")) {
+                Check.same((" " + caught.group(1)).contains(machines), false);
+            }
+        }
+    }
+
+    /** The program without its comments. */
+    private static String source() throws IOException {
+        String source = Files.readString(Path.of("src/main/java/Walkwatch.java"));
+        return source.replaceAll("(?s)/\\*.*?\\*/", " ").replaceAll("//[^\n]*", " ");
     }
 }

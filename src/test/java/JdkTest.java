@@ -10,7 +10,7 @@ import java.util.Random;
 
 /** Runs of 512 chosen calls (always the same ones), each answer compared with that of the JDK's collections. */
 final class JdkTest {
-    private static final int RUNS = 3000;
+    private static final int RUNS = 1000;
     private static final int CALLS = 512;
 
     private static final Map<String, Method> JDK = new HashMap<>();

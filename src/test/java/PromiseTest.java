@@ -1,21 +1,5 @@
-import java.util.ConcurrentModificationException;
-import java.util.NoSuchElementException;
-
 /** For each promise of the document: ordinary inputs, the edges that it names, and wrong inputs. */
-final class PromiseTest {
-    private static final Class<? extends RuntimeException> INDEX = IndexOutOfBoundsException.class;
-    private static final Class<? extends RuntimeException> ARGUMENT = IllegalArgumentException.class;
-    private static final Class<? extends RuntimeException> STATE = IllegalStateException.class;
-    private static final Class<? extends RuntimeException> UNSUPPORTED = UnsupportedOperationException.class;
-    private static final Class<? extends RuntimeException> NONE = NoSuchElementException.class;
-    private static final Class<? extends RuntimeException> CHANGED = ConcurrentModificationException.class;
-    private static final int[] ALL = {0, 1, 2, 3, 4, 5, 6, 7, 8};
-    private static final int[] WALKED = {0, 1, 2, 3, 4, 5, 6, 7};
-    private static final int[] LISTS = {0, 1};
-    private static final int[] MAPS = {2, 3, 4, 5};
-    private static final int[] NO_LISTS = {2, 3, 4, 5, 6, 7, 8};
-    private static final int[] NO_MAPS = {0, 1, 6, 7, 8};
-
+final class PromiseTest extends TestBase {
     private PromiseTest() {
     }
 
@@ -23,64 +7,19 @@ final class PromiseTest {
         Check.runAll(PromiseTest.class, "promise");
     }
 
-    private static Walkwatch with(int collection, int... things) {
-        Walkwatch x = new Walkwatch();
-        for (int thing : things) {
-            Check.same(x.add(collection, thing), true);
-        }
-        return x;
-    }
-
-    private static Walkwatch full(int collection) {
-        Walkwatch x = new Walkwatch();
-        for (int i = 0; i < 40; i++) {
-            x.add(collection, i);
-        }
-        return x;
-    }
-
-    private static void holds(Walkwatch x, int collection, int... things) {
-        Check.same(x.size(collection), things.length);
-        for (int i = 0; i < things.length; i++) {
-            Check.same(x.thingAt(collection, i), things[i]);
-        }
-    }
-
-    private static void values(Walkwatch x, int map, int... values) {
-        for (int i = 0; i < values.length; i++) {
-            Check.same(x.valueAt(map, i), values[i]);
-        }
-    }
-
-    private interface OfCollection {
-        Object run(Walkwatch x, int number);
-    }
-
     /** The number of a collection, or of a walk, from 0 to the last one alone. */
-    private static void needsNumber(int last, OfCollection call) {
+    private static void needsNumber(int last, Numbered call) {
         for (int number : new int[] {-1, last + 1, Integer.MAX_VALUE, Integer.MIN_VALUE}) {
             Walkwatch x = new Walkwatch();
-            Check.isRefused(x, INDEX, () -> call.run(x, number));
+            Check.isRefused(x, INDEX, () -> call.on(x, number));
         }
     }
 
-    private static void isUnsupportedFor(int[] numbers, OfCollection call) {
+    private static void isUnsupportedFor(int[] numbers, Numbered call) {
         for (int number : numbers) {
             Walkwatch x = new Walkwatch();
             x.add(number, 1);
-            Check.isRefused(x, UNSUPPORTED, () -> call.run(x, number));
-        }
-    }
-
-    /** Whether a walk that is begun ahead of a change loses its use by it. */
-    private static boolean costsUse(Walkwatch x, int collection, Check.Call change) {
-        x.begin(7, collection, 'k');
-        change.run();
-        try {
-            x.step(7);
-            return false;
-        } catch (ConcurrentModificationException e) {
-            return true;
+            Check.isRefused(x, UNSUPPORTED, () -> call.on(x, number));
         }
     }
 
